@@ -22,6 +22,8 @@ public final class SiteSealer {
     private static final int MAX_SHAPE = 63;
     private static final int MAX_TAKEN_BY_SITE = 3;
     private static final int ALL_MEMBERS = MAX_CLASSES * MAX_MEMBERS;
+    /** Each turn of a run does an instruction, begins to initialise a class, or is the last one. */
+    private static final int MAX_TURNS = MAX_STEPS + MAX_CLASSES + 1;
 
     private static final int INIT = 0;
 
@@ -38,7 +40,6 @@ public final class SiteSealer {
     private static final int SORT_METHOD = 4;
     private static final int SORT_FIELD = 5;
     private static final int SORT_SEALED_INT = 6;
-    private static final int SORT_SEALED_LONG = 7;
     private static final int SORT_SEALED_STRING = 8;
     private static final int SORT_SITE = 9;
     /** From the sort of a constant to the sort of the sealed one. */
@@ -285,7 +286,10 @@ public final class SiteSealer {
             throw new IllegalArgumentException("arguments, or steps not within their bounds");
         }
         Account account = sealed ? sealedAccount : plainAccount;
-        machine.runAll(classes, place, steps, account);
+        machine.begin(classes, place, steps, account);
+        for (int turn = 0; turn < MAX_TURNS && account.status == RUNNING; turn++) {
+            machine.takeTurn();
+        }
         return account.status;
     }
 
@@ -324,8 +328,16 @@ public final class SiteSealer {
     }
 
     private boolean isSound() {
-        if (soundness == UNKNOWN) {
-            soundness = checker.areAllRight(plain) ? SOUND : UNSOUND;
+        if (soundness != UNKNOWN) {
+            return soundness == SOUND;
+        }
+        soundness = SOUND;
+        for (int c = 0; c < plain.size && soundness == SOUND; c++) {
+            for (int m = 0; m < plain.all[c].methodCount && soundness == SOUND; m++) {
+                if (checker.firstWrong(plain, c, m) != NONE) {
+                    soundness = UNSOUND;
+                }
+            }
         }
         return soundness == SOUND;
     }
@@ -382,6 +394,10 @@ public final class SiteSealer {
 
     private static int shapeOfSite(long site) {
         return (int) (site >> 24 & 255);
+    }
+
+    private static boolean isOfSite(int op) {
+        return op >= STATIC && op <= PUTF || op == MEET;
     }
 
     private static boolean isOfMethod(int op) {
@@ -659,11 +675,13 @@ public final class SiteSealer {
         }
 
         int findField(int type, int name, int kind) {
-            for (int c = type; c != NONE; c = all[c].parent) {
+            int c = type;
+            for (int hop = 0; hop < MAX_CLASSES && c != NONE; hop++) {
                 int f = all[c].fieldCalled(name, kind);
                 if (f != NONE) {
                     return c * MAX_MEMBERS + f;
                 }
+                c = all[c].parent;
             }
             return NONE;
         }
@@ -672,42 +690,46 @@ public final class SiteSealer {
             if (name == INIT) {
                 return NONE;
             }
-            for (int c = type; c != NONE; c = all[c].parent) {
-                int m = all[c].methodCalled(name, shape);
-                if (m != NONE) {
-                    return c * MAX_MEMBERS + m;
-                }
-            }
-            return NONE;
+            return findMethodWithout(0, type, name, shape);
         }
 
         int findVirtual(int type, int name, int shape) {
-            for (int c = type; c != NONE; c = all[c].parent) {
-                int m = all[c].methodCalled(name, shape);
-                if (m != NONE && (all[c].methods[m].flags & (STATIC_FLAG | PRIVATE_FLAG)) == 0) {
-                    return c * MAX_MEMBERS + m;
-                }
-            }
-            return NONE;
+            return findMethodWithout(STATIC_FLAG | PRIVATE_FLAG, type, name, shape);
         }
 
         boolean isInLineOf(int upper, int type) {
-            for (int c = type; c != NONE; c = all[c].parent) {
+            int c = type;
+            for (int hop = 0; hop < MAX_CLASSES && c != NONE; hop++) {
                 if (c == upper) {
                     return true;
                 }
+                c = all[c].parent;
             }
             return false;
         }
 
         int topmostOutside(boolean[] done, int type) {
             int topmost = NONE;
-            for (int c = type; c != NONE; c = all[c].parent) {
+            int c = type;
+            for (int hop = 0; hop < MAX_CLASSES && c != NONE; hop++) {
                 if (!done[c]) {
                     topmost = c;
                 }
+                c = all[c].parent;
             }
             return topmost;
+        }
+
+        private int findMethodWithout(int barredFlags, int type, int name, int shape) {
+            int c = type;
+            for (int hop = 0; hop < MAX_CLASSES && c != NONE; hop++) {
+                int m = all[c].methodCalled(name, shape);
+                if (m != NONE && (all[c].methods[m].flags & barredFlags) == 0) {
+                    return c * MAX_MEMBERS + m;
+                }
+                c = all[c].parent;
+            }
+            return NONE;
         }
     }
 
@@ -721,17 +743,6 @@ public final class SiteSealer {
         private Pool pool = null;
         private Method method = null;
 
-        boolean areAllRight(Classes asked) {
-            for (int c = 0; c < asked.size; c++) {
-                for (int m = 0; m < asked.all[c].methodCount; m++) {
-                    if (firstWrong(asked, c, m) != NONE) {
-                        return false;
-                    }
-                }
-            }
-            return true;
-        }
-
         int firstWrong(Classes asked, int type, int number) {
             classes = asked;
             pool = asked.all[type].pool;
@@ -743,7 +754,11 @@ public final class SiteSealer {
                 if (top > 0 && isTarget[i]) {
                     return i;
                 }
-                goThrough(method.ops[i], method.as[i]);
+                if (isOfSite(method.ops[i])) {
+                    goThroughSite(pool.siteAt(method.ops[i], method.as[i]));
+                } else {
+                    goThrough(method.ops[i], method.as[i]);
+                }
                 if (!fits) {
                     return i;
                 }
@@ -752,7 +767,9 @@ public final class SiteSealer {
         }
 
         private void markTargets() {
-            Arrays.fill(isTarget, false);
+            for (int i = 0; i < method.size; i++) {
+                isTarget[i] = false;
+            }
             for (int i = 0; i < method.size; i++) {
                 boolean jumps = method.ops[i] == ZERO || method.ops[i] == GOTO;
                 if (jumps && isWithin(method.as[i], 0, method.size - 1)) {
@@ -797,7 +814,7 @@ public final class SiteSealer {
                     jump(a);
                     break;
                 case NEW:
-                    need(classes.has(a));
+                    fits = classes.has(a);
                     put(REFERENCE);
                     break;
                 case OUT:
@@ -808,7 +825,7 @@ public final class SiteSealer {
                     break;
                 case RET:
                     take(kindOfResult(method.shape));
-                    need(top == 0);
+                    fits = fits && top == 0;
                     break;
                 case POP:
                     takeAny();
@@ -817,26 +834,19 @@ public final class SiteSealer {
                     twice();
                     break;
                 default:
-                    goThroughOther(op, a);
+                    take(NUMBER);
+                    take(NUMBER);
+                    put(NUMBER);
             }
         }
 
-        private void goThroughOther(int op, int a) {
-            if (op >= ADD && op <= LESS) {
-                take(NUMBER);
-                take(NUMBER);
-                put(NUMBER);
+        private void goThroughSite(long site) {
+            if (site == NONE) {
+                fits = false;
                 return;
             }
-            long site = pool.siteAt(op, a);
-            need(site != NONE);
-            if (fits) {
-                goThroughSite(opOfSite(site), shapeOfSite(site));
-            }
-        }
-
-        private void goThroughSite(int op, int shape) {
-            switch (op) {
+            int shape = shapeOfSite(site);
+            switch (opOfSite(site)) {
                 case STATIC:
                     takeArguments(shape);
                     put(kindOfResult(shape));
@@ -863,11 +873,9 @@ public final class SiteSealer {
         }
 
         private void goThroughLocal(int op, int a) {
-            need(isWithin(a, 0, MAX_LOCALS - 1));
-            if (!fits) {
-                return;
-            }
-            if (op == LOAD) {
+            if (!isWithin(a, 0, MAX_LOCALS - 1)) {
+                fits = false;
+            } else if (op == LOAD) {
                 put(method.kindOfLocal(a));
             } else {
                 take(method.kindOfLocal(a));
@@ -875,15 +883,15 @@ public final class SiteSealer {
         }
 
         private void putConstant(int a, int firstSort, int stringSort) {
-            need(pool.has(a) && isWithin(pool.sort[a], firstSort, stringSort));
-            if (fits) {
+            if (pool.has(a) && isWithin(pool.sort[a], firstSort, stringSort)) {
                 put(pool.sort[a] == stringSort ? REFERENCE : NUMBER);
+            } else {
+                fits = false;
             }
         }
 
         private void jump(int a) {
-            need(isWithin(a, 0, method.size - 1));
-            need(top == 0);
+            fits = fits && top == 0 && isWithin(a, 0, method.size - 1);
         }
 
         private void takeArguments(int shape) {
@@ -893,34 +901,36 @@ public final class SiteSealer {
         }
 
         private void take(int kind) {
-            need(top > 0 && kinds[top - 1] == kind);
-            takeAny();
+            if (top > 0 && kinds[top - 1] == kind) {
+                top--;
+            } else {
+                fits = false;
+            }
         }
 
         private void takeAny() {
-            need(top > 0);
-            if (fits) {
+            if (top > 0) {
                 top--;
+            } else {
+                fits = false;
             }
         }
 
         private void put(int kind) {
-            need(top < MAX_STACK);
-            if (fits) {
+            if (top < MAX_STACK) {
                 kinds[top] = kind;
                 top++;
+            } else {
+                fits = false;
             }
         }
 
         private void twice() {
-            need(top > 0);
-            if (fits) {
+            if (top > 0) {
                 put(kinds[top - 1]);
+            } else {
+                fits = false;
             }
-        }
-
-        private void need(boolean holds) {
-            fits = fits && holds;
         }
     }
 
@@ -965,7 +975,7 @@ public final class SiteSealer {
         }
 
         private static boolean isHideable(int op) {
-            return op == PUSH || op >= STATIC && op <= PUTF;
+            return op == PUSH || isOfSite(op);
         }
 
         private int reasonToLeave(Pool pool, int op, int a) {
@@ -1047,7 +1057,9 @@ public final class SiteSealer {
         void reset() {
             objects = 0;
             statics.clear(0, ALL_MEMBERS);
-            Arrays.fill(isInitialised, false);
+            for (int c = 0; c < MAX_CLASSES; c++) {
+                isInitialised[c] = false;
+            }
         }
 
         int make(int type) {
@@ -1067,10 +1079,6 @@ public final class SiteSealer {
         final int[] tops = new int[MAX_DEPTH];
         int depth = 0;
 
-        boolean isFull() {
-            return depth == MAX_DEPTH;
-        }
-
         int current() {
             return depth - 1;
         }
@@ -1084,19 +1092,24 @@ public final class SiteSealer {
             return (depth - 1) * MAX_STACK + tops[depth - 1] - 1 - above;
         }
 
-        void enter(int place, int taken) {
+        /** A method begins within the others, with what it takes from the stack; false if there are too many. */
+        boolean enter(int place, int taken) {
+            if (depth == MAX_DEPTH) {
+                return false;
+            }
             int firstLocal = depth * MAX_LOCALS;
             locals.clear(firstLocal, firstLocal + MAX_LOCALS);
-            for (int i = 0; i < taken; i++) {
-                locals.take(firstLocal + i, stack, cellUnder(taken - 1 - i));
-            }
             if (taken > 0) {
+                for (int i = 0; i < taken; i++) {
+                    locals.take(firstLocal + i, stack, cellUnder(taken - 1 - i));
+                }
                 drop(taken);
             }
             places[depth] = place;
             next[depth] = 0;
             tops[depth] = 0;
             depth++;
+            return true;
         }
 
         void leaveWithResult() {
@@ -1144,16 +1157,13 @@ public final class SiteSealer {
 
     /** Runs methods whose code is right. */
     static final class Machine {
-        /** Each turn does an instruction, begins to initialise a class, or is the last one. */
-        private static final int MAX_TURNS = MAX_STEPS + MAX_CLASSES + 1;
-
         private final Frames frames = new Frames();
         private final Heap heap = new Heap();
         private Classes classes = null;
         private Account account = null;
         private int steps = 0;
 
-        void runAll(Classes program, int place, int mayDo, Account tells) {
+        void begin(Classes program, int place, int mayDo, Account tells) {
             classes = program;
             account = tells;
             steps = mayDo;
@@ -1161,12 +1171,9 @@ public final class SiteSealer {
             heap.reset();
             frames.depth = 0;
             frames.enter(place, 0);
-            for (int turn = 0; turn < MAX_TURNS && account.status == RUNNING; turn++) {
-                takeTurn();
-            }
         }
 
-        private void takeTurn() {
+        void takeTurn() {
             if (account.done == steps) {
                 account.status = OUT_OF_STEPS;
                 return;
@@ -1177,12 +1184,18 @@ public final class SiteSealer {
                 return;
             }
             Method method = classes.methodAt(frames.places[frame]);
+            int op = method.ops[at];
+            int a = method.as[at];
             frames.next[frame] = at + 1;
-            if (perform(method.ops[at], method.as[at])) {
+            if (isOfSite(op) ? meetSite(runningPool().siteAt(op, a)) : perform(op, a)) {
                 account.done++;
             } else {
                 frames.next[frame] = at;
             }
+        }
+
+        private Pool runningPool() {
+            return classes.all[frames.runningClass()].pool;
         }
 
         /** Whether the instruction was done; if not, the run has a status, or it is tried again behind an INIT. */
@@ -1190,7 +1203,7 @@ public final class SiteSealer {
             switch (op) {
                 case PUSH:
                 case OPEN:
-                    pushConstant(classes.all[frames.runningClass()].pool, a);
+                    pushConstant(runningPool(), a);
                     return true;
                 case NULL:
                     frames.push(Cells.PLAIN_TAG, 0);
@@ -1228,18 +1241,15 @@ public final class SiteSealer {
                     frames.pushFrom(frames.stack, frames.cellUnder(0));
                     return true;
                 default:
-                    return performOther(op, a);
+                    calculate(op);
+                    return true;
             }
         }
 
-        private boolean performOther(int op, int a) {
-            if (op >= ADD && op <= LESS) {
-                long second = frames.popNumber();
-                long first = frames.popNumber();
-                frames.pushNumber(calculated(op, first, second));
-                return true;
-            }
-            return meetSite(classes.all[frames.runningClass()].pool.siteAt(op, a));
+        private void calculate(int op) {
+            long second = frames.popNumber();
+            long first = frames.popNumber();
+            frames.pushNumber(calculated(op, first, second));
         }
 
         private static long calculated(int op, long first, long second) {
@@ -1330,6 +1340,9 @@ public final class SiteSealer {
         }
 
         private boolean meetSite(long site) {
+            if (site == NONE) {
+                return stop(MISSING);
+            }
             int op = opOfSite(site);
             int name = nameOfSite(site);
             int shape = shapeOfSite(site);
@@ -1353,7 +1366,7 @@ public final class SiteSealer {
                 return false;
             }
             if (op == STATIC) {
-                return call(place, argumentsOf(classes.methodAt(place).shape));
+                return frames.enter(place, argumentsOf(classes.methodAt(place).shape)) || stop(TOO_DEEP);
             }
             if (op == GETS) {
                 frames.pushFrom(heap.statics, place);
@@ -1388,19 +1401,11 @@ public final class SiteSealer {
 
         private boolean callOn(int type, int found, int taken) {
             Method method = classes.methodAt(found);
-            if (isPrivate(method.flags)) {
-                return call(found, taken);
+            int place = isPrivate(method.flags) ? found : classes.findVirtual(type, method.name, method.shape);
+            if (place == NONE) {
+                return stop(MISSING);
             }
-            int place = classes.findVirtual(type, method.name, method.shape);
-            return place == NONE ? stop(MISSING) : call(place, taken);
-        }
-
-        private boolean call(int place, int taken) {
-            if (frames.isFull()) {
-                return stop(TOO_DEEP);
-            }
-            frames.enter(place, taken);
-            return true;
+            return frames.enter(place, taken) || stop(TOO_DEEP);
         }
 
         /** If a class of the line is still to be initialised, this begins with the topmost one. */
@@ -1412,8 +1417,8 @@ public final class SiteSealer {
             if (log(ROW_CLASS, topmost)) {
                 heap.isInitialised[topmost] = true;
                 int init = classes.all[topmost].methodCalled(INIT, 0);
-                if (init != NONE) {
-                    call(topmost * MAX_MEMBERS + init, 0);
+                if (init != NONE && !frames.enter(topmost * MAX_MEMBERS + init, 0)) {
+                    stop(TOO_DEEP);
                 }
             }
             return false;

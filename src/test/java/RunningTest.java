@@ -17,6 +17,7 @@ public final class RunningTest {
         virtualCalls();
         fieldsOfObjects();
         initialising();
+        resultOfInitIsDropped();
         initialisingAndSteps();
         initialisingAndFailing();
         depth();
@@ -367,6 +368,27 @@ public final class RunningTest {
             Ops.write(z, 2, m, Ops.LOAD, 0, Ops.RET, 0);
             run("found above, op " + op, z, 2, 100, 0, op == Ops.PUTS ? 4 : op == Ops.GETS ? 6 : 8, "5:2 5:0");
         }
+    }
+
+    /** What an INIT answers is not there when the instruction behind it takes its own. */
+    private static void resultOfInitIsDropped() {
+        SiteSealer x = classes(-1, -1);
+        x.field(0, 1, 0, 1);
+        init(x, 0, 1, 10);
+        x.ref(1, true, 0, 1, 0);
+        x.number(1, 6, false);
+        Ops.main(x, 1, 1, Ops.PUSH, 1, Ops.PUTS, 0, Ops.GETS, 0, Ops.RET, 0);
+        run("PUTS behind an INIT", x, 1, 100, 0, 8, "5:1 5:0 1:10");
+        due.is("what was put", x.told(true, -4), 6);
+        SiteSealer y = classes(-1, -1);
+        init(y, 0, 1, 10);
+        Ops.write(y, 0, y.method(0, 2, 2, 1, 0), Ops.LOAD, 0, Ops.LOAD, 1, Ops.SUB, 0, Ops.RET, 0);
+        y.ref(1, false, 0, 2, 2);
+        y.number(1, 6, false);
+        y.number(1, 4, false);
+        Ops.main(y, 1, 1, Ops.PUSH, 1, Ops.PUSH, 2, Ops.STATIC, 0, Ops.RET, 0);
+        run("STATIC behind an INIT", y, 1, 100, 0, 12, "5:1 5:0 1:10");
+        due.is("what was calculated", y.told(true, -4), 2);
     }
 
     private static void initialisingAndSteps() {

@@ -8,6 +8,7 @@ public final class TellingTest {
         results();
         latest();
         alike();
+        alikeButForOne();
         due.end();
     }
 
@@ -120,5 +121,35 @@ public final class TellingTest {
         due.is("another number of rows", x.alike(), false);
         x.seal(2);
         due.is("without a run of the copy", x.alike(), false);
+    }
+
+    /** Methods whose runs differ in one thing alone, against method 1, run in the copy. */
+    private static void alikeButForOne() {
+        SiteSealer x = new SiteSealer();
+        x.type(-1);
+        x.ref(0, true, 0, 1, 0);
+        x.string(0, 0, 1);
+        x.field(0, 1, 0, 0);
+        Ops.main(x, 0, 1, Ops.NULL, 0, Ops.SAY, 0, Ops.LOAD, 0, Ops.RET, 0);
+        Ops.main(x, 0, 2, Ops.NULL, 0, Ops.POP, 0, Ops.LOAD, 0, Ops.RET, 0);
+        Ops.main(x, 0, 3, Ops.LOAD, 0, Ops.OUT, 0, Ops.LOAD, 0, Ops.RET, 0);
+        Ops.main(x, 0, 4, Ops.NULL, 0, Ops.GETF, 0, Ops.RET, 0);
+        Ops.main(x, 0, 5, Ops.PUSH, 1, Ops.GETF, 0, Ops.RET, 0);
+        x.seal(3);
+        x.run(true, 0, 1, 0, 9);
+        due.is("of the copy alone", x.alike(), false);
+        x.run(false, 0, 1, 0, 9);
+        due.is("the same", x.alike(), true);
+        x.run(false, 0, 2, 0, 9);
+        due.is("fewer rows of the classes", x.alike(), false);
+        x.run(false, 0, 3, 0, 9);
+        due.is("another kind in a row", x.alike(), false);
+        x.run(true, 0, 2, 0, 9);
+        due.is("fewer rows of the copy", x.alike(), false);
+        x.run(true, 0, 4, 0, 9);
+        x.run(false, 0, 5, 0, 9);
+        due.is("another status alone", x.alike(), false);
+        x.run(false, 0, 4, 0, 9);
+        due.is("the same status", x.alike(), true);
     }
 }
