@@ -4,59 +4,49 @@ import java.util.Arrays;
 import java.util.List;
 import java.util.Random;
 
-/** Calls with any arguments in any state: nothing but what the face names is thrown, and what throws changes nothing. */
+/**
+ * Calls with any arguments in any state: nothing but what the face names is thrown, and what throws changes nothing:
+ * a twin that hears only the calls that do not throw answers the same to them, and shows the same at last.
+ */
 public final class AnyCallTest {
-    private static final int OBJECTS = 400;
+    private static final int OBJECTS = 1200;
+    private static final int CALLS = 300;
     private static final Due due = new Due("AnyCallTest");
 
-    public static void main(String[] args) throws IllegalAccessException {
+    private final SiteSealer x = new SiteSealer();
+    private final SiteSealer twin = new SiteSealer();
+    private final Random dice;
+
+    private AnyCallTest(int seed) {
+        dice = new Random(seed);
+    }
+
+    public static void main(String[] args) throws ReflectiveOperationException {
         Method[] face = SiteSealer.class.getDeclaredMethods();
         List<Method> calls = Arrays.stream(face).filter(m -> java.lang.reflect.Modifier.isPublic(m.getModifiers()))
                 .sorted((a, b) -> a.getName().compareTo(b.getName())).toList();
         for (int seed = 0; seed < OBJECTS; seed++) {
-            Random dice = new Random(seed);
-            SiteSealer x = new SiteSealer();
-            for (int i = 0; i < 1500; i++) {
-                Method call = calls.get(dice.nextInt(calls.size()));
-                callOnce(x, call, arguments(call, dice), seed);
+            AnyCallTest test = new AnyCallTest(seed);
+            for (int i = 0; i < CALLS; i++) {
+                Method call = calls.get(test.dice.nextInt(calls.size()));
+                test.callOnce("object " + seed + ": ", call, arguments(call, test.dice));
             }
+            due.text("object " + seed + ": what is seen at last", Seen.now(test.x), Seen.now(test.twin));
         }
         due.end();
     }
 
-    private static void callOnce(SiteSealer x, Method call, Object[] arguments, int seed) throws IllegalAccessException {
-        String before = seed % 40 == 0 ? seen(x) : null;
-        String what = "object " + seed + ": " + call.getName() + Arrays.toString(arguments);
+    private void callOnce(String which, Method call, Object[] arguments) throws ReflectiveOperationException {
+        String what = which + call.getName() + Arrays.toString(arguments);
+        Object answer;
         try {
-            call.invoke(x, arguments);
-            due.is(what, 0, 0);
+            answer = call.invoke(x, arguments);
         } catch (InvocationTargetException e) {
             boolean isNamed = Arrays.asList(call.getExceptionTypes()).contains(e.getCause().getClass());
             due.is(what + " threw " + e.getCause() + ", which it names", isNamed, true);
-            if (before != null) {
-                due.is(what + " threw and changed nothing", seen(x).equals(before), true);
-            }
+            return;
         }
-    }
-
-    /** All that a caller can see without changing anything. */
-    private static String seen(SiteSealer x) {
-        StringBuilder text = new StringBuilder().append(x.alike()).append(x.left());
-        for (int s = 0; s < 2; s++) {
-            boolean sealed = s == 1;
-            text.append(Ops.rows(x, sealed));
-            for (int c = 0; c < 8; c++) {
-                try {
-                    text.append(' ').append(x.pool(sealed, c)).append(x.entry(sealed, c, x.pool(sealed, c) - 1, 1));
-                    for (int m = 0; m < 6; m++) {
-                        text.append(' ').append(x.wrong(sealed, c, m)).append(x.code(sealed, c, m, 0, 0));
-                    }
-                } catch (RuntimeException e) {
-                    text.append(e.getClass().getSimpleName());
-                }
-            }
-        }
-        return text.toString();
+        due.text(what, "" + call.invoke(twin, arguments), "" + answer);
     }
 
     private static Object[] arguments(Method call, Random dice) {

@@ -24,6 +24,14 @@ final class Due {
         is(call, got ? 1 : 0, want ? 1 : 0);
     }
 
+    void text(String call, String got, String want) {
+        checked++;
+        if (!got.equals(want)) {
+            wrong++;
+            System.out.println(test + ": " + call + " answered " + got + ", due is " + want);
+        }
+    }
+
     void fails(String call, Class<? extends RuntimeException> want, Call asked) {
         checked++;
         String got;

@@ -1,10 +1,8 @@
-import java.math.BigInteger;
 import java.util.NoSuchElementException;
 
 /** Promises 10 to 15: sealing, what is left, and how pools and code look then. */
 public final class SealingTest {
     private static final Due due = new Due("SealingTest");
-    private static final BigInteger TWO_64 = BigInteger.ONE.shiftLeft(64);
 
     public static void main(String[] args) {
         constants();
@@ -15,30 +13,6 @@ public final class SealingTest {
         orderOfHiding();
         exceptions();
         due.end();
-    }
-
-    // The document's formulas once more, by numbers without an end.
-
-    private static BigInteger unsigned(long v) {
-        return BigInteger.valueOf(v).mod(TWO_64);
-    }
-
-    private static BigInteger mix(BigInteger x) {
-        BigInteger y = x.xor(x.shiftRight(29)).multiply(new BigInteger("9e3779b97f4a7c15", 16)).mod(TWO_64);
-        y = y.xor(y.shiftRight(32)).multiply(new BigInteger("d6e8feb86659fd93", 16)).mod(TWO_64);
-        return y.xor(y.shiftRight(29));
-    }
-
-    private static BigInteger sealOf(long key, int c, int j) {
-        return mix(mix(unsigned(key).add(BigInteger.valueOf(c)).mod(TWO_64)).xor(BigInteger.valueOf(j + 1)));
-    }
-
-    private static BigInteger closed(long v, BigInteger k, int bits) {
-        BigInteger room = BigInteger.ONE.shiftLeft(bits);
-        BigInteger m = mix(k).setBit(0).mod(room);
-        BigInteger product = unsigned(v).mod(room).xor(k.mod(room)).multiply(m).mod(room);
-        int turn = k.shiftRight(bits == 32 ? 59 : 58).intValue();
-        return product.shiftLeft(turn).or(product.shiftRight(bits - turn)).mod(room);
     }
 
     private static void constants() {
@@ -62,11 +36,11 @@ public final class SealingTest {
                 int bits = j % 2 == 1 ? 32 : 64;
                 long v = values[(j - 15) / 2];
                 due.is("sort", x.entry(true, 1, j, 0), bits == 32 ? 6 : 7);
-                due.is("sealed value", x.entry(true, 1, j, 1), closed(v, sealOf(key, 1, j), bits).longValue());
+                due.is("sealed value", x.entry(true, 1, j, 1), Formulas.closed(v, Formulas.sealOf(key, 1, j), bits).longValue());
                 due.is("length", x.entry(true, 1, j, 2), 0);
             }
             due.is("sort of the string", x.entry(true, 1, 29, 0), 8);
-            due.is("bytes", x.entry(true, 1, 29, 1), 0x6463626160L ^ sealOf(key, 1, 29).longValue());
+            due.is("bytes", x.entry(true, 1, 29, 1), 0x6463626160L ^ Formulas.sealOf(key, 1, 29).longValue());
             due.is("length", x.entry(true, 1, 29, 2), 5);
             due.is("the clear one stays", x.entry(true, 1, 14, 1), 0x6463626160L);
             due.is("run", x.run(false, 1, 1, 0, 31), 1);
@@ -98,7 +72,7 @@ public final class SealingTest {
         for (int i = 0; i < sites.length; i++) {
             if (sites[i] >= 0) {
                 due.is("sort", x.entry(true, 2, 5 + i, 0), 9);
-                due.is("site", x.entry(true, 2, 5 + i, 1), closed(sites[i], sealOf(-77, 2, 5 + i), 64).longValue());
+                due.is("site", x.entry(true, 2, 5 + i, 1), Formulas.closed(sites[i], Formulas.sealOf(-77, 2, 5 + i), 64).longValue());
                 due.is("length", x.entry(true, 2, 5 + i, 2), 0);
             }
         }
@@ -231,12 +205,12 @@ public final class SealingTest {
             due.is("method 0 comes first", x.code(true, c, 0, 0, 1), 1);
             due.is("method 1 comes behind", x.code(true, c, 1, 0, 1), 2);
             for (int j = 1; j < 3; j++) {
-                due.is("value", x.entry(true, c, j, 1), closed(10 + c, sealOf(3, c, j), 64).longValue());
+                due.is("value", x.entry(true, c, j, 1), Formulas.closed(10 + c, Formulas.sealOf(3, c, j), 64).longValue());
             }
         }
         due.is("sealed anew with another key", x.seal(4), 4);
         due.is("pool", x.pool(true, 0), 3);
-        due.is("value", x.entry(true, 0, 1, 1), closed(10, sealOf(4, 0, 1), 64).longValue());
+        due.is("value", x.entry(true, 0, 1, 1), Formulas.closed(10, Formulas.sealOf(4, 0, 1), 64).longValue());
         due.is("run", x.run(true, 0, 1, 0, 5), 0);
         due.is("result", x.told(true, -4), 10);
     }
