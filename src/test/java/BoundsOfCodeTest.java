@@ -20,6 +20,7 @@ public final class BoundsOfCodeTest {
         entriesThatAreNone();
         entriesOfAnotherSort();
         localsThatAreNone();
+        kindsOfLocals();
         classesThatAreNone();
         instructionsThatAreNone();
         behindZeroAndGoto();
@@ -203,6 +204,36 @@ public final class BoundsOfCodeTest {
         right("", Ops.LOAD, 7);
         right("n", Ops.STORE, 0);
         right("r", Ops.STORE, 7);
+    }
+
+    /** "of the others local i is a reference if bit i of the method's locals is 1": receiver and arguments aren't others. */
+    private static void kindsOfLocals() {
+        for (int count = 0; count < 4; count++) {
+            for (int flags = 0; flags < 2; flags++) {
+                // All arguments are of the other kind than all other locals.
+                kinds(count, flags, 28, 0);
+                kinds(count, flags, 0, 255);
+            }
+        }
+        for (int i = 0; i < 8; i++) {
+            SiteSealer x = world();
+            Ops.write(x, 0, x.method(0, 9, 0, 1, 1 << i), Ops.LOAD, i, Ops.SAY, 0, Ops.LOAD, (i + 1) % 8, Ops.RET, 0);
+            due.is("bit " + i + " alone", x.wrong(false, 0, 0), -1);
+        }
+    }
+
+    private static void kinds(int count, int flags, int kinds, int locals) {
+        int first = 1 - flags;
+        for (int i = 0; i < 8; i++) {
+            boolean isArgument = i >= first && i < first + count;
+            boolean isRef = i < first || (isArgument ? kinds != 0 : locals != 0);
+            SiteSealer x = world();
+            Ops.write(x, 0, x.method(0, 9, count + kinds, flags, locals), Ops.LOAD, i, isRef ? Ops.SAY : Ops.OUT, 0, Ops.GOTO, 0);
+            due.is("local " + i + " of " + count + " arguments", x.wrong(false, 0, 0), -1);
+            SiteSealer y = world();
+            Ops.write(y, 0, y.method(0, 9, count + kinds, flags, locals), Ops.LOAD, i, isRef ? Ops.OUT : Ops.SAY, 0, Ops.GOTO, 0);
+            due.is("local " + i + " as the other kind", y.wrong(false, 0, 0), 1);
+        }
     }
 
     /** "a .. class .. a is none". */

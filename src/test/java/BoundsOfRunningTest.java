@@ -38,12 +38,19 @@ public final class BoundsOfRunningTest {
         whoNeedsInitialised();
         initOfAnyFlags();
         initThatNeedsItself();
+        resultOfInitIsDropped();
         initThatFails();
         logValues();
         numbersWrapAround();
         stringsOfTheSameBytes();
+        whatLiesBelowStays();
+        eightOnEachStack();
         localsAtFirst();
+        localBehindArguments();
         fieldsAtFirst();
+        lastFieldOfLastClass();
+        linesOfEight();
+        eightClassesAnd3000Steps();
         fromTheBeginningOfAll();
         due.end();
     }
@@ -706,6 +713,19 @@ public final class BoundsOfRunningTest {
         run("and one below", x, 1, 3000, 0, 10 + 4 + 2, "5:0 5:1 1:11 3:1 1:4 3:0");
     }
 
+    /** "runs to its end, if it has one (its result is dropped ..": what lies on the stack is what lay there before. */
+    private static void resultOfInitIsDropped() {
+        SiteSealer x = classes(-1, 0);
+        init(x, 0, 10);
+        init(x, 1, 11);
+        x.field(1, 1, 0, 1);
+        x.ref(0, true, 1, 1, 0);
+        x.number(0, 6, false);
+        Ops.main(x, 0, 1, Ops.PUSH, 2, Ops.PUSH, 2, Ops.PUTS, 1, Ops.OUT, 0, Ops.GETS, 1, Ops.RET, 0);
+        run("PUTS behind an INIT", x, 0, 3000, 0, 4 + 4 + 6, "5:0 1:10 5:1 1:11 1:6");
+        due.is("what was put", x.told(true, -4), 6);
+    }
+
     /** "its instructions count as others, also if the one that needs it is not done any more". */
     private static void initThatFails() {
         SiteSealer x = classes(-1, -1);
@@ -778,6 +798,70 @@ public final class BoundsOfRunningTest {
         run("strings", x, 0, 3000, 0, 6 * 6 + 10, "5:0 5:1 1:1 1:1 1:0 1:0 1:0 1:0 1:0 1:0");
     }
 
+    /** "what goes from the stack .. and what comes onto it": a number below all that is there still. */
+    private static void whatLiesBelowStays() {
+        int[][] all = {{Ops.LOAD, 0, Ops.STORE, 1}, {Ops.LOAD, 0, Ops.LOAD, 0, Ops.ADD, 0, Ops.POP, 0},
+            {Ops.NULL, 0, Ops.NULL, 0, Ops.SAME, 0, Ops.POP, 0}, {Ops.LOAD, 0, Ops.OUT, 0}, {Ops.NULL, 0, Ops.SAY, 0},
+            {Ops.NULL, 0, Ops.POP, 0}, {Ops.LOAD, 0, Ops.DUP, 0, Ops.POP, 0, Ops.POP, 0},
+            {Ops.LOAD, 0, Ops.LOAD, 0, Ops.STATIC, 1, Ops.POP, 0},
+            {Ops.NEW, 0, Ops.LOAD, 0, Ops.LOAD, 0, Ops.VIRTUAL, 2, Ops.POP, 0}, {Ops.GETS, 3, Ops.PUTS, 3},
+            {Ops.NEW, 0, Ops.GETF, 4, Ops.POP, 0}, {Ops.NEW, 0, Ops.LOAD, 0, Ops.PUTF, 4}};
+        for (int i = 0; i < all.length; i++) {
+            SiteSealer x = classes(-1);
+            x.number(0, 77, false);
+            x.ref(0, false, 0, 2, 2);
+            x.ref(0, false, 0, 3, 2);
+            x.ref(0, true, 0, 1, 0);
+            x.ref(0, true, 0, 2, 0);
+            x.field(0, 1, 0, 1);
+            x.field(0, 2, 0, 0);
+            method(x, 0, 2, 2, 1);
+            method(x, 0, 3, 2, 0);
+            int m = x.method(0, 1, 0, 1, 0);
+            Ops.write(x, 0, m, Ops.PUSH, 0);
+            Ops.write(x, 0, m, all[i]);
+            Ops.write(x, 0, m, Ops.OUT, 0, Ops.LOAD, 0, Ops.RET, 0);
+            due.is("code " + i, x.run(false, 0, 1, 0, 99), 0);
+            due.is("the number below, behind code " + i, x.told(false, 2 * (int) x.told(false, -1) - 1), 77);
+            x.seal(i);
+            due.is("code " + i + ", sealed", x.run(true, 0, 1, 0, 99), 0);
+            due.is("alike", x.alike(), true);
+        }
+    }
+
+    /** An op so often. */
+    private static void often(SiteSealer x, int method, int times, int op, int a) {
+        for (int i = 0; i < times; i++) {
+            x.op(0, method, op, a);
+        }
+    }
+
+    /** "more than 8 come to be there": each of 16 methods within each other has eight, and all of that twice. */
+    private static void eightOnEachStack() {
+        SiteSealer x = classes(-1);
+        x.number(0, 14, false);
+        x.number(0, 1, false);
+        x.ref(0, false, 0, 2, 1);
+        int m = x.method(0, 2, 1, 1, 0);
+        Ops.write(x, 0, m, Ops.LOAD, 0, Ops.ZERO, 19);
+        often(x, m, 6, Ops.PUSH, 1);
+        Ops.write(x, 0, m, Ops.LOAD, 0, Ops.PUSH, 1, Ops.SUB, 0, Ops.STATIC, 2);
+        often(x, m, 6, Ops.ADD, 0);
+        x.op(0, m, Ops.RET, 0);
+        often(x, m, 8, Ops.PUSH, 1);
+        often(x, m, 7, Ops.ADD, 0);
+        x.op(0, m, Ops.RET, 0);
+        int main = x.method(0, 1, 0, 1, 0);
+        for (int i = 0; i < 2; i++) {
+            often(x, main, 7, Ops.PUSH, 1);
+            Ops.write(x, 0, main, Ops.PUSH, 0, Ops.STATIC, 2);
+            often(x, main, 7, Ops.ADD, 0);
+            x.op(0, main, i == 0 ? Ops.OUT : Ops.RET, 0);
+        }
+        run("eight on each", x, 0, 3000, 0, 34 + 2 * (14 * 19 + 18), "5:0 1:99");
+        due.is("the same twice", x.told(true, -4), 99);
+    }
+
     /** "LOCALS 0 .. 7 ..; at first they have 0, or null": in each call anew, also where another had its own. */
     private static void localsAtFirst() {
         SiteSealer x = classes(-1);
@@ -800,6 +884,17 @@ public final class BoundsOfRunningTest {
         run("receiver and arguments", y, 0, 3000, 0, 6 + 14, "5:0 3:0 1:5 2:97 1:6 1:0 4:0");
     }
 
+    /** The first local behind the arguments, where something was on the stack above them before. */
+    private static void localBehindArguments() {
+        SiteSealer x = classes(-1);
+        x.ref(0, false, 0, 2, 1);
+        x.number(0, 9, false);
+        x.string(0, 1, 1);
+        Ops.write(x, 0, x.method(0, 2, 1, 1, 4), Ops.LOAD, 1, Ops.OUT, 0, Ops.LOAD, 2, Ops.SAY, 0, Ops.LOAD, 0, Ops.RET, 0);
+        Ops.main(x, 0, 1, Ops.PUSH, 1, Ops.PUSH, 1, Ops.PUSH, 2, Ops.SAY, 0, Ops.OUT, 0, Ops.STATIC, 0, Ops.RET, 0);
+        run("behind the arguments", x, 0, 3000, 0, 13, "5:0 2:1 1:9 1:0 4:0");
+    }
+
     /** "Fields of an object are 0 or null at first": also those of the last of six, and static ones. */
     private static void fieldsAtFirst() {
         SiteSealer x = classes(-1);
@@ -817,6 +912,65 @@ public final class BoundsOfRunningTest {
                 Ops.NEW, 0, Ops.GETF, 4, Ops.OUT, 0, Ops.LOAD, 1, Ops.GETF, 4, Ops.OUT, 0, Ops.NEW, 0, Ops.GETF, 5, Ops.SAY, 0,
                 Ops.LOAD, 0, Ops.RET, 0);
         run("fields", x, 0, 3000, 0, 35, "5:0 1:0 4:0 1:0 4:0 1:0 4:0 1:0 1:7 4:0");
+    }
+
+    /** Eight classes of six fields each: the last one, static, and of the 40th object. */
+    private static void lastFieldOfLastClass() {
+        SiteSealer x = classes(-1, 0, 1, 2, 3, 4, 5, 6);
+        for (int c = 0; c < 8; c++) {
+            for (int f = 0; f < 6; f++) {
+                x.field(c, 1 + f, 0, f == 4 ? 1 : 0);
+            }
+        }
+        x.number(0, 9, false);
+        x.ref(0, true, 7, 5, 0);
+        x.ref(0, true, 7, 6, 0);
+        x.ref(0, true, 6, 5, 0);
+        int m = x.method(0, 1, 0, 1, 2);
+        Ops.write(x, 0, m, Ops.PUSH, 0, Ops.PUTS, 1, Ops.GETS, 1, Ops.OUT, 0, Ops.GETS, 3, Ops.OUT, 0, Ops.NEW, 7, Ops.STORE, 1,
+                Ops.PUSH, 0, Ops.STORE, 0, Ops.LOAD, 1, Ops.LOAD, 0, Ops.PUTF, 2, Ops.LOAD, 1, Ops.GETF, 2, Ops.OUT, 0,
+                Ops.NEW, 7, Ops.GETF, 2, Ops.OUT, 0, Ops.LOAD, 2, Ops.RET, 0);
+        run("the last field", x, 0, 3000, 0, 21, "5:0 5:1 5:2 5:3 5:4 5:5 5:6 5:7 1:9 1:0 1:9 1:0");
+        SiteSealer y = classes(-1, 0, 1, 2, 3, 4, 5, 6);
+        for (int f = 0; f < 6; f++) {
+            y.field(7, 1 + f, 0, 0);
+        }
+        y.number(0, 40, false);
+        y.number(0, 1, false);
+        y.ref(0, true, 7, 6, 0);
+        Ops.write(y, 0, y.method(0, 1, 0, 1, 2), Ops.PUSH, 0, Ops.STORE, 0, Ops.NEW, 7, Ops.STORE, 1,
+                Ops.LOAD, 1, Ops.LOAD, 0, Ops.PUTF, 2, Ops.LOAD, 1, Ops.GETF, 2, Ops.OUT, 0,
+                Ops.LOAD, 0, Ops.PUSH, 1, Ops.SUB, 0, Ops.DUP, 0, Ops.STORE, 0, Ops.ZERO, 17, Ops.GOTO, 2,
+                Ops.LOAD, 1, Ops.GETF, 2, Ops.RET, 0);
+        due.is("40 objects", y.run(false, 0, 1, 0, 3000), 0);
+        due.is("of the 40th", y.told(false, -4), 1);
+        due.is("rows", y.told(false, -1), 48);
+    }
+
+    /** All eight classes in one line: what is found, initialised, and fits at its other end. */
+    private static void linesOfEight() {
+        for (int op : FOUND_OPS) {
+            SiteSealer x = classes(-1, 0, 1, 2, 3, 4, 5, 6);
+            member(x, op, 0, 5, 0, wantsStatic(op) ? 1 : 0);
+            asked(x, 7, op, 7, 5, Ops.NEW, 7);
+            due.is("found in the topmost, op " + op, x.run(false, 7, 1, 0, 99), 0);
+            due.text("all are initialised", Ops.rows(x, false), "5:0 5:1 5:2 5:3 5:4 5:5 5:6 5:7");
+            x.seal(op);
+            due.is("sealed, op " + op, x.run(true, 7, 1, 0, 99), 0);
+            due.is("alike", x.alike(), true);
+        }
+    }
+
+    /** As many instructions as a run may have, and all classes initialised, with INITs or without. */
+    private static void eightClassesAnd3000Steps() {
+        for (int inits = 0; inits <= 8; inits += 8) {
+            SiteSealer x = classes(-1, 0, 1, 2, 3, 4, 5, 6);
+            for (int c = 0; c < inits; c++) {
+                method(x, c, 0, 0, 1);
+            }
+            Ops.main(x, 7, 1, Ops.GOTO, 0);
+            run("without an end, " + inits + " INITs", x, 7, 3000, 1, 3000, "5:0 5:1 5:2 5:3 5:4 5:5 5:6 5:7");
+        }
     }
 
     /** "runs, from the beginning of all": nothing of an earlier run is there, of the same or the other one. */

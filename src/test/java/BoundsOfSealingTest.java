@@ -30,6 +30,7 @@ public final class BoundsOfSealingTest {
         sealedSites();
         wrongMethodIsNotSealed();
         sealingAnew();
+        sealingAnewBehindMore();
         theClassesStayAsTheyAre();
         leftWithoutCopy();
         leftAtBounds();
@@ -456,6 +457,24 @@ public final class BoundsOfSealingTest {
         due.is("left once, not twice", y.left(), 1);
     }
 
+    /** What has been opened, or met, in an earlier copy is not taken for what stands in its place now. */
+    private static void sealingAnewBehindMore() {
+        SiteSealer x = classes(-1);
+        x.number(0, 5, false);
+        x.number(0, 6, true);
+        x.string(0, 0x41, 1);
+        x.field(0, 1, 0, 1);
+        x.ref(0, true, 0, 1, 0);
+        Ops.main(x, 0, 1, Ops.PUSH, 0, Ops.OUT, 0, Ops.PUSH, 1, Ops.OUT, 0, Ops.PUSH, 2, Ops.SAY, 0, Ops.PUSH, 1, Ops.PUTS, 3,
+                Ops.GETS, 3, Ops.OUT, 0, Ops.LOAD, 0, Ops.RET, 0);
+        for (int i = 0; i < 5; i++) {
+            due.is("hidden", x.seal(7), 6);
+            due.is("run", x.run(true, 0, 1, 0, 99), 0);
+            due.text("rows", Ops.rows(x, true), "5:0 1:5 1:6 2:65 1:6");
+            x.number(0, 9, true);
+        }
+    }
+
     private static void theClassesStayAsTheyAre() {
         SiteSealer x = constants(1, 77, 0);
         x.seal(1);
@@ -523,6 +542,12 @@ public final class BoundsOfSealingTest {
         SiteSealer x = constants(1, 1, 0);
         due.fails("without a copy", STATE, () -> x.entry(true, 0, 0, 0));
         x.seal(1);
+        SiteSealer y = withRef(false, 5, 0);
+        y.ref(0, true, 0, 5, 0);
+        due.is("sort of a method", y.entry(false, 0, 0, 0), 4);
+        due.is("length of a method", y.entry(false, 0, 0, 2), 0);
+        due.is("sort of a field", y.entry(false, 0, 1, 0), 5);
+        due.is("length of a field", y.entry(false, 0, 1, 2), 0);
         int[] lengths = {0, 0, 8, 0, 8, 0};
         int[] sorts = {1, 2, 3, 6, 8, 7};
         for (int j = 0; j < 6; j++) {

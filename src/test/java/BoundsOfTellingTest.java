@@ -283,6 +283,15 @@ public final class BoundsOfTellingTest {
         differ("another status", false, code(Ops.NULL, 0, Ops.GETF, 1, Ops.RET, 0), code(Ops.PUSH, 2, Ops.GETF, 1, Ops.RET, 0));
         differ("another result", false, code(Ops.PUSH, 0, Ops.RET, 0), code(Ops.LOAD, 0, Ops.RET, 0));
         differ("another number done", false, code(Ops.LOAD, 0, Ops.RET, 0), code(Ops.GOTO, 1, Ops.LOAD, 0, Ops.RET, 0));
+        SiteSealer x = classes(-1, -1);
+        Ops.main(x, 0, 1, Ops.LOAD, 0, Ops.RET, 0);
+        Ops.main(x, 1, 1, Ops.LOAD, 0, Ops.RET, 0);
+        x.seal(1);
+        x.run(false, 0, 1, 0, 9);
+        x.run(true, 1, 1, 0, 9);
+        due.is("another value of the first row", x.alike(), false);
+        x.run(true, 0, 1, 0, 9);
+        due.is("the same first row", x.alike(), true);
         differ("other strings that are told the same", true, code(Ops.PUSH, 2, Ops.SAY, 0, Ops.LOAD, 0, Ops.RET, 0),
                 code(Ops.PUSH, 3, Ops.SAY, 0, Ops.LOAD, 0, Ops.RET, 0));
     }
