@@ -99,11 +99,11 @@ public final class SiteSealer {
     private static final int UNSOUND = 2;
 
     private final Classes plain = new Classes();
-    private final Sealer sealer = new Sealer();
-    private final Checker checker = new Checker();
-    private final Machine machine = new Machine();
     private final Account plainAccount = new Account();
     private final Account sealedAccount = new Account();
+    private final Sealer sealer = new Sealer();
+    private final Checker checker = new Checker(plain);
+    private final Machine machine = new Machine(plain, plainAccount);
     private boolean hasCopy = false;
     /** Whether a method is wrong, kept until something is added: each run asks it of all methods. */
     private int soundness = UNKNOWN;
@@ -739,9 +739,15 @@ public final class SiteSealer {
         private final boolean[] isTarget = new boolean[MAX_CODE];
         private int top = 0;
         private boolean fits = true;
-        private Classes classes = null;
-        private Pool pool = null;
-        private Method method = null;
+        private Classes classes;
+        private Pool pool;
+        private Method method;
+
+        Checker(Classes first) {
+            classes = first;
+            pool = first.all[0].pool;
+            method = first.all[0].methods[0];
+        }
 
         int firstWrong(Classes asked, int type, int number) {
             classes = asked;
@@ -1037,7 +1043,8 @@ public final class SiteSealer {
         }
 
         void take(int i, Cells from, int j) {
-            set(i, from.tag[j], from.value[j]);
+            tag[i] = from.tag[j];
+            value[i] = from.value[j];
         }
 
         void clear(int from, int to) {
@@ -1159,9 +1166,14 @@ public final class SiteSealer {
     static final class Machine {
         private final Frames frames = new Frames();
         private final Heap heap = new Heap();
-        private Classes classes = null;
-        private Account account = null;
+        private Classes classes;
+        private Account account;
         private int steps = 0;
+
+        Machine(Classes first, Account firstAccount) {
+            classes = first;
+            account = firstAccount;
+        }
 
         void begin(Classes program, int place, int mayDo, Account tells) {
             classes = program;

@@ -204,81 +204,10 @@ public final class AnyProgramTest {
         m.code().add(new int[] {op, a});
     }
 
-    /** Tries instructions, and keeps those that leave the code right but for its end. */
     private void writeCode(Model.Member m, int number, boolean spoils) {
-        int wish = 3 + dice.nextInt(26);
-        Model.Member trial = new Model.Member(m.owner(), false, m.name(), m.shape(), m.flags(), m.locals(), new ArrayList<>());
-        for (int tries = 0; tries < 150 && trial.code().size() < wish; tries++) {
-            offer(trial, anyOp(), anyA(trial));
-        }
-        for (int pops = 0; pops < 9; pops++) {
-            offer(trial, Ops.STORE, dice.nextInt(8));
-            offer(trial, dice.nextBoolean() ? Ops.OUT : Ops.SAY, 0);
-        }
-        for (int pops = 0; pops < 9 && offer(trial, Ops.POP, 0); pops++) {
-            continue;
-        }
-        finish(trial);
-        turnJumps(trial);
-        if (spoils && dice.nextInt(3) == 0) {
-            int at = dice.nextInt(trial.code().size());
-            trial.code().set(at, new int[] {dice.nextInt(24), dice.nextInt(12) - 2});
-        }
-        for (int[] ins : trial.code()) {
+        for (int[] ins : new CodeWriter(dice, model).write(m, 3 + dice.nextInt(26), spoils)) {
             if (m.code().size() < 40) {
                 put(m, number, ins[0], ins[1]);
-            }
-        }
-    }
-
-    private void finish(Model.Member trial) {
-        if (dice.nextInt(12) == 0 && offer(trial, Ops.GOTO, 0)) {
-            return;
-        }
-        if (trial.shape() >> 5 == 1) {
-            offer(trial, Ops.NULL, 0);
-        } else {
-            for (int i = 0; i < 8; i++) {
-                if (model.local(trial, i) == 'n') {
-                    offer(trial, Ops.LOAD, i);
-                    break;
-                }
-            }
-        }
-        offer(trial, Ops.RET, 0);
-    }
-
-    private int anyOp() {
-        if (dice.nextInt(10) < 3) {
-            return dice.nextInt(2) == 0 ? Ops.OUT : Ops.SAY;
-        }
-        return dice.nextInt(24);
-    }
-
-    private int anyA(Model.Member trial) {
-        return dice.nextInt(4) == 0 ? dice.nextInt(trial.code().size() + 4) : dice.nextInt(18);
-    }
-
-    private boolean offer(Model.Member trial, int op, int a) {
-        trial.code().add(new int[] {op, a});
-        int wrong = model.wrong(trial);
-        boolean fits = wrong == -1 || wrong == trial.code().size();
-        if (!fits) {
-            trial.code().remove(trial.code().size() - 1);
-        }
-        return fits;
-    }
-
-    /** Jumps were written when nothing stood behind them: some of them go on there now. */
-    private void turnJumps(Model.Member trial) {
-        for (int[] ins : trial.code()) {
-            if (ins[0] != Ops.GOTO && ins[0] != Ops.ZERO) {
-                continue;
-            }
-            int before = ins[1];
-            ins[1] = dice.nextInt(trial.code().size());
-            if (model.wrong(trial) != -1) {
-                ins[1] = before;
             }
         }
     }
